@@ -1,5 +1,3 @@
-import java.util.Arrays;
-
 /** A small lazy language, turned into combinators and rewritten in place in a heap of few cells. */
 public final class TurnerHeap {
     private static final int LONGEST_TEXT = 240;
@@ -59,7 +57,11 @@ public final class TurnerHeap {
     public int read() throws IllegalArgumentException, IllegalStateException, UnsupportedOperationException {
         forget();
         lexemes.cut(text, written);
-        reader.readProgram();
+        reader.begin();
+        for (int i = 0; i < lexemes.size() && reader.isAtDefinition(); i++) {
+            reader.readDefinition();
+        }
+        reader.readMain();
         int cells = reader.cells();
         if (terms.isTooBig() || cells > heap.room()) {
             throw new UnsupportedOperationException("the terms are too big");
@@ -140,6 +142,7 @@ public final class TurnerHeap {
         return c == 10 || c >= 32 && c <= 126;
     }
 
+    /** First of all, so that nothing is read any more when reading throws. */
     private void forget() {
         loaded = false;
         paper.clear();
@@ -189,7 +192,7 @@ public final class TurnerHeap {
         }
 
         static long constant(int kind) {
-            return of(kind, 0);
+            return (long) kind << 32;
         }
 
         static int kind(long word) {
@@ -201,7 +204,7 @@ public final class TurnerHeap {
         }
 
         static boolean isCell(long word) {
-            return kind(word) == CELL;
+            return (int) (word >>> 32) == CELL;
         }
     }
 
@@ -306,8 +309,8 @@ public final class TurnerHeap {
 
     /** Terms while they are read: trees of applications, out of which names are taken in place. */
     private static final class Terms {
-        /** Taking out can shrink terms by some two hundred at most, so what fills this is too big for any room. */
-        private static final int NODES = 1024;
+        /** Taking out shrinks terms by less than 600 (a few for each lexeme): so what fills this fits in no room. */
+        static final int NODES = 1024;
         private static final int MOST_APPLICATIONS = 400;
 
         private final long[] left;
@@ -355,6 +358,7 @@ public final class TurnerHeap {
             return order[i];
         }
 
+        /** When it is too big, reading still goes on, because a wrong text is told as such. */
         long apply(long f, long x) {
             if (freeSize == 0) {
                 tooBig = true;
@@ -369,7 +373,7 @@ public final class TurnerHeap {
             return Word.of(Word.CELL, node);
         }
 
-        long apply(int constant, long a, long b) {
+        long applyToTwo(int constant, long a, long b) {
             return apply(apply(Word.constant(constant), a), b);
         }
 
@@ -380,7 +384,7 @@ public final class TurnerHeap {
                 order[n] = Word.number(term);
                 n++;
             }
-            for (int i = 0; i < n; i++) {
+            for (int i = 0; i < n && i < NODES; i++) {
                 n = listSide(left[order[i]], n);
                 n = listSide(right[order[i]], n);
             }
@@ -395,6 +399,7 @@ public final class TurnerHeap {
             return n + 1;
         }
 
+        /** Each application belongs to one term alone, so what comes of it may be written over it. */
         long takeOut(int name, long term) {
             if (tooBig) {
                 return term;
@@ -414,16 +419,16 @@ public final class TurnerHeap {
         private void takeOutOf(int node, long self) {
             long f = left[node];
             long x = right[node];
-            has[node] = hasName(f, self) || hasName(x, self);
+            boolean inF = hasName(f, self);
+            boolean inX = hasName(x, self);
+            has[node] = inF || inX;
             if (!has[node]) {
                 return;
             }
-            boolean inF = hasName(f, self);
-            boolean inX = hasName(x, self);
             long p = inF ? withoutName(f) : f;
             long q = inX ? withoutName(x) : x;
-            boolean pIsK = !inF || startsWith(p, Word.K);
-            boolean qIsK = !inX || startsWith(q, Word.K);
+            boolean pIsK = !inF || isK(p);
+            boolean qIsK = !inX || isK(q);
             if (inF && pIsK) {
                 p = unwrap(p);
             }
@@ -460,11 +465,15 @@ public final class TurnerHeap {
         }
 
         private boolean isB(long term) {
-            return Word.isCell(term) && startsWith(left[Word.number(term)], Word.B);
+            if (!Word.isCell(term)) {
+                return false;
+            }
+            long inner = left[Word.number(term)];
+            return Word.isCell(inner) && left[Word.number(inner)] == Word.constant(Word.B);
         }
 
-        private boolean startsWith(long term, int constant) {
-            return Word.isCell(term) && left[Word.number(term)] == Word.constant(constant);
+        private boolean isK(long term) {
+            return Word.isCell(term) && left[Word.number(term)] == Word.constant(Word.K);
         }
 
         private boolean hasName(long term, long self) {
@@ -551,16 +560,21 @@ public final class TurnerHeap {
             return cells;
         }
 
-        void readProgram() {
+        void begin() {
             terms.clear();
             at = 0;
             definitions = 0;
             inScope = 0;
             waitingSize = 0;
             findNames();
-            for (int i = 0; i <= MOST_DEFINITIONS && isWord(DEF); i++) {
-                readDefinition();
-            }
+        }
+
+        boolean isAtDefinition() {
+            return isWord(DEF);
+        }
+
+        void readMain() {
+            inScope = 0;
             mainTerm = expression(1);
             expect(Lexemes.END);
         }
@@ -578,7 +592,7 @@ public final class TurnerHeap {
             }
         }
 
-        private void readDefinition() {
+        void readDefinition() {
             at++;
             expect(Lexemes.NAME);
             inScope = 0;
@@ -595,7 +609,6 @@ public final class TurnerHeap {
             for (int i = parameters - 1; i >= 0; i--) {
                 term = terms.takeOut(scope[i], term);
             }
-            inScope = 0;
             defined[definitions] = term;
             definitions++;
         }
@@ -630,7 +643,7 @@ public final class TurnerHeap {
             long then = expression(depth + 1);
             expectWord(ELSE);
             long other = expression(depth + 1);
-            return terms.apply(terms.apply(Word.COND, condition, then), other);
+            return terms.apply(terms.applyToTwo(Word.COND, condition, then), other);
         }
 
         private long function(int depth) {
@@ -651,7 +664,7 @@ public final class TurnerHeap {
         private long chain(int depth) {
             int from = waitingSize;
             long last = comparison(depth);
-            while (at < lexemes.size() && lexemes.kind(at) == ':') {
+            for (int i = 0; i < lexemes.size() && lexemes.kind(at) == ':'; i++) {
                 at++;
                 await(last);
                 last = comparison(depth);
@@ -667,31 +680,31 @@ public final class TurnerHeap {
             }
             at++;
             long b = sum(depth);
-            return terms.apply(kind == '<' ? Word.LESS : Word.EQUAL, a, b);
+            return terms.applyToTwo(kind == '<' ? Word.LESS : Word.EQUAL, a, b);
         }
 
         private long sum(int depth) {
             long a = product(depth);
-            while (at < lexemes.size() && (lexemes.kind(at) == '+' || lexemes.kind(at) == '-')) {
+            for (int i = 0; i < lexemes.size() && (lexemes.kind(at) == '+' || lexemes.kind(at) == '-'); i++) {
                 int constant = lexemes.kind(at) == '+' ? Word.ADD : Word.SUB;
                 at++;
-                a = terms.apply(constant, a, product(depth));
+                a = terms.applyToTwo(constant, a, product(depth));
             }
             return a;
         }
 
         private long product(int depth) {
             long a = application(depth);
-            while (at < lexemes.size() && lexemes.kind(at) == '*') {
+            for (int i = 0; i < lexemes.size() && lexemes.kind(at) == '*'; i++) {
                 at++;
-                a = terms.apply(Word.MUL, a, application(depth));
+                a = terms.applyToTwo(Word.MUL, a, application(depth));
             }
             return a;
         }
 
         private long application(int depth) {
             long f = atom(depth);
-            while (at < lexemes.size() && beginsAtom()) {
+            for (int i = 0; i < lexemes.size() && beginsAtom(); i++) {
                 f = terms.apply(f, atom(depth));
             }
             return f;
@@ -728,7 +741,7 @@ public final class TurnerHeap {
             int from = waitingSize;
             if (lexemes.kind(at) != ']') {
                 await(expression(depth + 1));
-                while (at < lexemes.size() && lexemes.kind(at) == ',') {
+                for (int i = 0; i < lexemes.size() && lexemes.kind(at) == ','; i++) {
                     at++;
                     await(expression(depth + 1));
                 }
@@ -748,7 +761,7 @@ public final class TurnerHeap {
         private long pairUp(int from, long last) {
             long pairs = last;
             for (int i = waitingSize - 1; i >= from; i--) {
-                pairs = terms.apply(Word.PAIR, waiting[i], pairs);
+                pairs = terms.applyToTwo(Word.PAIR, waiting[i], pairs);
             }
             waitingSize = from;
             return pairs;
@@ -846,7 +859,9 @@ public final class TurnerHeap {
         private final long[] right;
         private final int[] free;
         private int freeSize;
-        private final boolean[] marked;
+        /** In which round a cell was marked last: so that a new round needs no wiping. */
+        private final int[] markedIn;
+        private int round;
         private final int[] toMark;
         private int marks;
         private final long[] defined;
@@ -858,7 +873,8 @@ public final class TurnerHeap {
             left = new long[room];
             right = new long[room];
             free = new int[room];
-            marked = new boolean[room];
+            markedIn = new int[room];
+            round = 0;
             toMark = new int[room];
             defined = new long[MOST_DEFINITIONS];
             places = new int[Terms.NODES];
@@ -911,7 +927,7 @@ public final class TurnerHeap {
             return Word.isCell(side) ? Word.of(Word.CELL, places[Word.number(side)]) : side;
         }
 
-        /** The caller has seen to it that a cell is free. */
+        /** The caller has seen to it that a cell is free: looked at here only so that nothing can fail. */
         long make(long f, long x) {
             if (freeSize == 0) {
                 return Word.constant(Word.NIL);
@@ -928,7 +944,7 @@ public final class TurnerHeap {
         }
 
         void unmark() {
-            Arrays.fill(marked, false);
+            round++;
             marks = 0;
         }
 
@@ -946,25 +962,28 @@ public final class TurnerHeap {
         void mark(long term) {
             int from = marks;
             note(term);
-            for (int i = from; i < marks; i++) {
+            for (int i = from; i < marks && i < room; i++) {
                 note(left[toMark[i]]);
                 note(right[toMark[i]]);
             }
         }
 
         private void note(long side) {
-            if (!Word.isCell(side) || marked[Word.number(side)]) {
+            if (!Word.isCell(side)) {
                 return;
             }
-            marked[Word.number(side)] = true;
-            toMark[marks] = Word.number(side);
-            marks++;
+            int cell = (int) side;
+            if (markedIn[cell] != round && marks < room) {
+                markedIn[cell] = round;
+                toMark[marks] = cell;
+                marks++;
+            }
         }
 
         void sweep() {
             freeSize = 0;
             for (int cell = room - 1; cell >= 0; cell--) {
-                if (!marked[cell]) {
+                if (markedIn[cell] != round) {
                     free[freeSize] = cell;
                     freeSize++;
                 }
@@ -1037,6 +1056,7 @@ public final class TurnerHeap {
         private static final int NO_ROOM = 3;
         private static final int TOO_DEEP = 4;
         private static final int FUNCTION = Word.NAME + 1;
+        private static final long IDENTITY = (long) Word.I << 32;
         private static final int MOST_ON_SPINES = 150;
         private static final int MOST_UPPER_SPINES = 40;
         /** Between two steps an upper spine comes and goes at most some hundred times. */
@@ -1198,7 +1218,7 @@ public final class TurnerHeap {
             long d = NEEDED[kind] > 3 ? argument(4) : 0L;
             switch (kind) {
                 case Word.K:
-                    return overwrite(2, Word.constant(Word.I), a);
+                    return overwrite(2, IDENTITY, a);
                 case Word.S:
                     return overwrite(3, heap.make(a, c), heap.make(b, c));
                 case Word.B:
@@ -1223,10 +1243,6 @@ public final class TurnerHeap {
             return true;
         }
 
-        private boolean answer(int n, long value) {
-            return overwrite(n, Word.constant(Word.I), value);
-        }
-
         /** Looks at an argument of the constant, with a spine of its own. */
         private boolean ask(int asker, boolean second, int first) {
             if (upperSpines >= MOST_UPPER_SPINES) {
@@ -1242,6 +1258,7 @@ public final class TurnerHeap {
             return false;
         }
 
+        /** The sides of a pair are kept, because its spine goes. */
         private boolean haveValue(int head, int arguments) {
             int number = Word.number(looked);
             int kind = isPlain(head) ? head : FUNCTION;
@@ -1277,24 +1294,24 @@ public final class TurnerHeap {
             if (!asksSecond[frame]) {
                 return ask(asker, true, number);
             }
-            return answer(2, calculate(asker, firsts[frame], number));
+            return overwrite(2, IDENTITY, calculate(asker, firsts[frame], number));
         }
 
         private boolean choose(int kind) {
             if (kind != Word.TRUE && kind != Word.FALSE) {
                 return halt(TYPE_ERROR);
             }
-            return answer(3, argument(kind == Word.TRUE ? 2 : 3));
+            return overwrite(3, IDENTITY, argument(kind == Word.TRUE ? 2 : 3));
         }
 
         private boolean takeApart(int asker, int kind) {
             if (asker == Word.NULL && (kind == Word.NIL || kind == Word.PAIR)) {
-                return answer(1, truth(kind == Word.NIL));
+                return overwrite(1, IDENTITY, truth(kind == Word.NIL));
             }
             if (kind != Word.PAIR) {
                 return halt(TYPE_ERROR);
             }
-            return answer(1, asker == Word.HEAD ? pairLeft : pairRight);
+            return overwrite(1, IDENTITY, asker == Word.HEAD ? pairLeft : pairRight);
         }
 
         private static long calculate(int asker, int a, int b) {
