@@ -100,6 +100,10 @@ public final class MachineTest {
         }
         fate("[]+((\\x.x x) (\\x.x x))", "|2|0");
         fate("hd [1] 2", "|2|2");
+        fate("(\\f.\\g.\\x.f x (g x)) 1 2", "|2|0");
+        fate("hd ((\\f.\\g.\\x.f x (g x)) 1 2)", "|2|0");
+        fate("nul ((\\x.1:x))", "|2|0");
+        fate("hd (\\x.\\y.x:y)", "|2|0");
         Check.due("a pair that is none", Check.fate(100, "hd ((\\x.x) 1)"), "|2|1");
     }
 

@@ -95,6 +95,8 @@ public final class ReadTest {
         for (String text : texts) {
             Check.wrong(text);
         }
+        Check.wrong(Check.times(" ", 239) + "=");
+        Check.wrong(Check.times(" ", 236) + "1 ==");
     }
 
     private static void names() {
@@ -106,7 +108,10 @@ public final class ReadTest {
         Check.due("a later one", Check.fate(100, "def a=b;def b=3;a"), "3|1|3");
         Check.due("words are names where no atom stands", Check.fate(100, "def if then=1;2"), "2|1|1");
         Check.due("and in a function", Check.fate(100, "(\\def.1) 2"), "1|1|3");
-        Check.wrong("\\then.then");
+        for (String word : new String[] {"def", "if", "then", "else"}) {
+            Check.wrong("\\" + word + "." + word);
+            Check.wrong("\\" + word + ".1 " + word);
+        }
         Check.wrong("def if = 1; if");
     }
 
@@ -130,6 +135,8 @@ public final class ReadTest {
         Check.wrong(Check.times("(", 7));
         cells(Check.times("[", 8) + Check.times("]", 8), 14);
         Check.tooMuch(Check.times("[", 9) + Check.times("]", 9));
+        cells(Check.times("[1,", 7) + "1" + Check.times("]", 7), 28);
+        Check.tooMuch(Check.times("[1,", 8) + "1" + Check.times("]", 8));
         cells(Check.times("\\x.", 7) + "1", 7);
         Check.tooMuch(Check.times("\\x.", 8) + "1");
         cells(Check.times("if 1 then 1 else ", 7) + "1", 21);
