@@ -2,17 +2,28 @@ import java.util.concurrent.Callable;
 
 /** What the tests share: a list of wrong answers, and short ways to use the class. */
 final class Check {
+    /** A definition f of 398 cells. */
+    static final String CELLS_398 =
+        "def f a b c d e g=\\h.\\i.\\j.\\k.\\l.(h i h h j)k(k e i)j(j b e l)(g b e)"
+        + "(e c h)(j h e)(c d)(k e)(i l i)e(c h)(c j)b l k;";
+
     private static int wrong = 0;
     private static int asked = 0;
+    private static String sentence = "";
 
     private Check() {
+    }
+
+    /** The document's words that are tested from here on: told with each wrong answer. */
+    static void sentence(String words) {
+        sentence = "\"" + words + "\": ";
     }
 
     static void due(String what, Object got, Object want) {
         asked++;
         if (!want.equals(got)) {
             wrong++;
-            System.out.println(what + ": answered " + got + ", due is " + want);
+            System.out.println(sentence + what + ": answered " + got + ", due is " + want);
         }
     }
 
@@ -82,10 +93,7 @@ final class Check {
 
     /** What comes out, how it stopped, and after how many steps. */
     static String fate(int room, String text) {
-        TurnerHeap heap = read(room, text);
-        for (int i = 0; i < 40 && heap.stopped() == 0; i++) {
-            heap.run(500);
-        }
+        TurnerHeap heap = ranOut(room, text);
         return printed(heap) + "|" + heap.stopped() + "|" + heap.count(2);
     }
 
@@ -99,6 +107,20 @@ final class Check {
 
     static void tooBig(int room, String text) {
         throwsDue("read of " + text, UnsupportedOperationException.class, () -> written(room, text).read());
+    }
+
+    /** A definition z of so many cells, which are always reached. */
+    static String filler(int cells) {
+        return "def z=1" + times(" 1", cells) + ";";
+    }
+
+    /** Runs until it stops, at most 20000 steps. */
+    static TurnerHeap ranOut(int room, String text) {
+        TurnerHeap heap = read(room, text);
+        for (int i = 0; i < 40 && heap.stopped() == 0; i++) {
+            heap.run(500);
+        }
+        return heap;
     }
 
     static String times(String text, int n) {
